@@ -333,7 +333,8 @@ public final class MinimaRoom {
     public int unsafeOn(int procedure) throws IndexOutOfBoundsException {
         requireProcedure(procedure);
         for (int day = now; day <= LAST_DAY; day++) {
-            if (isTooLow(heightInForce(procedure, day), leastHeight(procedure, day, NONE))) {
+            int height = heightInForce(procedure, day);
+            if (height != NONE && height < leastHeight(procedure, day, NONE)) {
                 return day;
             }
         }
@@ -344,8 +345,12 @@ public final class MinimaRoom {
         requireProcedure(procedure);
         int by = 0;
         for (int day = now; day <= LAST_DAY; day++) {
+            int height = heightInForce(procedure, day);
+            if (height == NONE) {
+                continue;
+            }
             int least = leastHeight(procedure, day, NONE);
-            if (isTooLow(heightInForce(procedure, day), least)) {
+            if (height < least) {
                 // The greatest RAISE alone counts: a new one starts at the CHART, not at what is in force.
                 by = Math.max(by, least - amendments.heightOn(procedure, day));
             }
@@ -420,14 +425,11 @@ public final class MinimaRoom {
         return notices.applyTo(chart, procedure, procedures.aids.at(procedure), day, crews.noticesRead.at(crew));
     }
 
-    private static boolean isTooLow(int inForce, int least) {
-        return inForce != NONE && inForce < least;
-    }
-
     private int unsafeSet() {
         int set = 0;
         for (int p = 0; p < procedures.count; p++) {
-            if (isTooLow(heightInForce(p, now), leastHeight(p, now, NONE))) {
+            int height = heightInForce(p, now);
+            if (height != NONE && height < leastHeight(p, now, NONE)) {
                 set |= 1 << p;
             }
         }

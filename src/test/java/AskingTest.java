@@ -163,6 +163,12 @@ public final class AskingTest {
         due.refused(room, "decides(1, 400)", Due.INDEX, () -> room.decides(1, 400));
         due.refused(room, "decides(0, -1)", Due.ARGUMENT, () -> room.decides(0, -1));
         due.refused(room, "decides(0, 400)", Due.ARGUMENT, () -> room.decides(0, 400));
+        MinimaRoom first = new MinimaRoom();
+        first.procedure(1, 10);
+        first.obstacle(0, 0, 400, 0, NONE);
+        due.is("the only one", first.decides(0, 0), 0);
+        first.obstacle(0, 0, 300, 0, NONE);
+        due.is("the first of two", first.decides(0, 399), 0);
         MinimaRoom full = new MinimaRoom();
         full.procedure(1, 10);
         for (int i = 0; i < 12; i++) {

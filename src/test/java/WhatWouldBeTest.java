@@ -172,6 +172,8 @@ public final class WhatWouldBeTest {
         last.pass(60);
         last.check(2, 200);
         due.is("the last DAY", last.unsafeOn(2), 399);
+        due.promise(28);
+        due.is("for the last DAY", last.raiseFor(2), 190);
     }
 
     private static void raiseFor() {
@@ -232,6 +234,13 @@ public final class WhatWouldBeTest {
         room.cancel(0);
         room.load(2);
         room.read(2);
+        due.is("digest()", room.digest(), digestOf(room));
+        room.raise(2, 5, 40, 50);
+        room.close(1, 40, 50);
+        room.cancel(3);
+        room.pass(1);
+        room.aid(1, 0);
+        due.is("a CREW is misled", room.misled(2), 2);
         due.is("digest()", room.digest(), digestOf(room));
         due.is("digest() changes nothing", room.digest(), digestOf(room));
     }
