@@ -463,7 +463,8 @@ public final class MinimaRoom {
     /** How high an OBSTACLE alone makes what is DEMANDED, where it is more than the BASE. */
     private static int needOf(int x, int y, int top, int kind, int slope) {
         if (x < 0) {
-            // The climb begins at what is demanded so far: adding what the TOP is above it gives this, whatever that is.
+            // The climb begins at what is demanded so far; with what the TOP is above the climb added to it, it
+            // comes to this, whatever was demanded so far.
             return top + 30 + 25 * x;
         }
         if (kind == GLIDE && top <= x * slope) {
