@@ -16,6 +16,11 @@ final class Due {
         promise = "promise " + number + ": ";
     }
 
+    /** The number of a promise or the name of a section, and what it says. */
+    void sentence(String words) {
+        promise = words + ": ";
+    }
+
     void is(String call, long got, long due) {
         calls++;
         if (got != due) {

@@ -1,13 +1,12 @@
-import java.lang.reflect.InvocationTargetException;
-import java.lang.reflect.Method;
 import java.util.HashMap;
 import java.util.Map;
 import java.util.Random;
 
-/** Random runs of 512 calls, each answer compared with that of Model: all promises. */
+/** Random runs of 512 calls, the digest() at their end with them, each answer compared with that of Model: all promises. */
 public final class ModelTest {
     private static final int RUNS = 400;
-    private static final int CALLS = 512;
+    /** One fewer than are promised: a digest() ends the run. */
+    private static final int CALLS = 511;
     private static final String[] TELLING = {
         "obstacle", "obstacle", "obstacle", "end", "aid", "check", "check", "procedure", "procedure", "pass", "pass",
         "amend", "amend", "raise", "out", "close", "cancel", "load", "read",
@@ -17,8 +16,6 @@ public final class ModelTest {
         "believes", "believes", "misled", "misled", "many", "meanDemanded", "permit", "permit", "highest", "unsafeOn",
         "raiseFor", "digest",
     };
-
-    private static final Map<String, Method> METHODS = methods();
 
     private final Random random;
     private final MinimaRoom room = new MinimaRoom();
@@ -57,8 +54,8 @@ public final class ModelTest {
             String[] names = random.nextInt(hasty ? 2 : 5) == 0 ? TELLING : ASKING;
             String name = i < 40 ? TELLING[random.nextInt(TELLING.length)] : names[random.nextInt(names.length)];
             int[] a = numbersFor(name);
-            String got = answer(room, name, a);
-            String due = answer(model, name, a);
+            String got = Answers.of(room, name, a);
+            String due = Answers.of(model, name, a);
             if (!got.equals(due)) {
                 System.out.println("seed " + seed + ", call " + i + ": " + name + java.util.Arrays.toString(a)
                         + " answered " + got + ", due is " + due);
@@ -174,34 +171,5 @@ public final class ModelTest {
             default:
                 return new int[] {procedure()};
         }
-    }
-
-    /** What the room or the model of it answers, or the name of what it throws. */
-    private static String answer(Object of, String name, int[] numbers) {
-        try {
-            return String.valueOf(METHODS.get(of.getClass().getName() + "." + name).invoke(of, boxed(numbers)));
-        } catch (InvocationTargetException e) {
-            return "throws " + e.getCause().getClass().getName();
-        } catch (IllegalAccessException e) {
-            throw new AssertionError(e);
-        }
-    }
-
-    private static Object[] boxed(int[] numbers) {
-        Object[] boxed = new Object[numbers.length];
-        for (int i = 0; i < boxed.length; i++) {
-            boxed[i] = numbers[i];
-        }
-        return boxed;
-    }
-
-    private static Map<String, Method> methods() {
-        Map<String, Method> methods = new HashMap<>();
-        for (Class<?> c : new Class<?>[] {MinimaRoom.class, Model.class}) {
-            for (Method m : c.getDeclaredMethods()) {
-                methods.put(c.getName() + "." + m.getName(), m);
-            }
-        }
-        return methods;
     }
 }

@@ -49,7 +49,9 @@ public final class ObstaclesAndProceduresTest {
             {-20, -9, 0, 0, 0}, {60, 9, 999, 399, 399}, {0, 0, 1, 399, NONE}, {1, 1, 1, 0, 399}, {2, 2, 2, 7, 7},
         };
         for (int number = 0; number < 12; number++) {
-            for (int[] o : wrong) {
+            // Not each time: an object is promised for 512 calls.
+            for (int i = number % 3; i < wrong.length; i += 3) {
+                int[] o = wrong[i];
                 due.refused(room, "obstacle" + java.util.Arrays.toString(o), Due.ARGUMENT,
                         () -> room.obstacle(o[0], o[1], o[2], o[3], o[4]));
             }

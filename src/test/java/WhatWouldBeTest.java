@@ -217,32 +217,38 @@ public final class WhatWouldBeTest {
 
     private static void digest() {
         due.promise(29);
-        MinimaRoom room = new MinimaRoom();
-        due.is("digest() of a new room", room.digest(), 2720396009852859555L);
-        due.is("digest() told again", room.digest(), digestOf(room));
-        room = charted();
-        due.is("digest()", room.digest(), digestOf(room));
-        room.obstacle(0, 0, 400, 100, 110);
-        room.obstacle(-3, 0, 400, 0, NONE);
-        room.raise(0, 100, 30, 200);
-        room.load(1);
-        room.read(3);
-        due.is("digest()", room.digest(), digestOf(room));
-        room.pass(40);
-        room.amend(0);
-        room.out(2, 40, 60);
-        room.cancel(0);
-        room.load(2);
-        room.read(2);
-        due.is("digest()", room.digest(), digestOf(room));
-        room.raise(2, 5, 40, 50);
-        room.close(1, 40, 50);
-        room.cancel(3);
-        room.pass(1);
-        room.aid(1, 0);
-        due.is("a CREW is misled", room.misled(2), 2);
-        due.is("digest()", room.digest(), digestOf(room));
-        due.is("digest() changes nothing", room.digest(), digestOf(room));
+        due.is("digest() of a new room", new MinimaRoom().digest(), 2720396009852859555L);
+        for (int steps = 0; steps < 4; steps++) {
+            MinimaRoom room = told(steps);
+            due.is("digest() after " + steps, room.digest(), digestOf(room));
+            due.is("digest() changes nothing", room.digest(), digestOf(told(steps)));
+        }
+        due.is("a CREW is misled", told(3).misled(2), 2);
+    }
+
+    private static MinimaRoom told(int steps) {
+        MinimaRoom room = steps == 0 ? new MinimaRoom() : charted();
+        if (steps > 1) {
+            room.obstacle(0, 0, 400, 100, 110);
+            room.obstacle(-3, 0, 400, 0, NONE);
+            room.raise(0, 100, 30, 200);
+            room.load(1);
+            room.read(3);
+            room.pass(40);
+            room.amend(0);
+            room.out(2, 40, 60);
+            room.cancel(0);
+            room.load(2);
+            room.read(2);
+        }
+        if (steps > 2) {
+            room.raise(2, 5, 40, 50);
+            room.close(1, 40, 50);
+            room.cancel(3);
+            room.pass(1);
+            room.aid(1, 0);
+        }
+        return room;
     }
 
     private static long digestOf(MinimaRoom room) {
