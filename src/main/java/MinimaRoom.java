@@ -14,6 +14,8 @@ public final class MinimaRoom {
 
     private static final int GREATEST_TOP = 999;
     private static final int GREATEST_RAISE = 500;
+    /** Above all that can ever be DEMANDED or IN FORCE. */
+    private static final int ABOVE_ALL = 1_000_000;
 
     private static final int GLIDE = 0;
     private static final int LINE = 1;
@@ -441,7 +443,7 @@ public final class MinimaRoom {
      * with it DEMANDED is the greater of what it is without it and of what it alone would need.
      */
     private int heightToKeep(int procedure, int from, int to) {
-        int keep = Integer.MAX_VALUE;
+        int keep = ABOVE_ALL;
         int last = to == NONE ? LAST_DAY : to;
         for (int day = Math.max(from, now); day <= last; day++) {
             int height = heightInForce(procedure, day);

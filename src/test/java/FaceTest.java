@@ -51,6 +51,9 @@ public final class FaceTest {
         "\\binstanceof\\b", "->", "::", "\\bSystem\\b", "\\bThread\\b", "\\bRandom\\b", "Exact\\b", "[^\\x00-\\x7f]",
     };
 
+    /** What the file may take of the library's classes of functions (rule 4); a constant like MAX_VALUE is not there. */
+    private static final Set<String> LISTED = Set.of("compare", "max", "min", "abs", "bitCount", "floorDiv", "floorMod");
+
     private static int wrong = 0;
 
     public static void main(String[] args) throws IOException {
@@ -138,6 +141,10 @@ public final class FaceTest {
         for (String forbidden : FORBIDDEN) {
             Matcher m = Pattern.compile(forbidden).matcher(text);
             require(!m.find(), "the file holds " + forbidden);
+        }
+        Matcher taken = Pattern.compile("\\b(Integer|Long|Math)\\s*\\.\\s*(\\w+)").matcher(text);
+        while (taken.find()) {
+            require(LISTED.contains(taken.group(2)), taken.group() + " is not listed in rule 4");
         }
         Matcher thrown = Pattern.compile("throw\\b[^;]*;").matcher(text);
         while (thrown.find()) {
